@@ -1054,7 +1054,7 @@ public final class AskedTheOtherWayAbout {
         }
 
         private int letterHere() {
-            return isWithin(place, 0, size - 1) ? letters[place] : NONE;
+            return place >= 0 && place < size ? letters[place] : NONE;
         }
 
         private void readLetter(char letter) {
@@ -1083,7 +1083,10 @@ public final class AskedTheOtherWayAbout {
         }
     }
 
-    /** The ACTS of one QUESTION at a time; the KINDS are three deep, and so no body calls on for long. */
+    /**
+     * The ACTS of one QUESTION at a time. asksFrom and so on: the body of a KIND, or of the next KIND above that has
+     * one; a body's super goes by a KIND further up, of which there are three at most, so that none calls on for long.
+     */
     private static final class Acts {
         private static final int MOST_KEPT = 20;
 

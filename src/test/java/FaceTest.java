@@ -5,7 +5,7 @@ import java.lang.reflect.Modifier;
 import java.util.Arrays;
 import java.util.TreeSet;
 
-/** The public face, as the document has it, and nothing beside it (LANGUAGE.md, rule 1). */
+/** The public face, as the document has it, and nothing beside it (LANGUAGE.md, rules 1, 2 and 11). */
 public final class FaceTest {
     private static final String[] FACE = {
         "int row(int,int,int)", "int set(int,int,long)", "int copy(int,int,int,int,int)", "long element(int,int)",
@@ -18,6 +18,9 @@ public final class FaceTest {
         "int judge(int,int)", "int round(int,int,int)", "int change(int,int,int)", "int doors(int)", "int seed(int)",
         "int act(int,int,int)", "int trace(int)", "int image()", "int restore()", "int status(int)",
     };
+
+    private static final int MOST_CLASSES = 12;
+    private static final int MOST_FIELDS = 20;
 
     public static void main(String[] args) throws Exception {
         Checks checks = new Checks();
@@ -51,8 +54,19 @@ public final class FaceTest {
         for (Class<?> inside : face.getDeclaredClasses()) {
             checks.due(inside + " is static", Modifier.isStatic(inside.getModifiers()) ? 1 : 0, 1);
             checks.due(inside + " is not public", Modifier.isPublic(inside.getModifiers()) ? 1 : 0, 0);
+            checks.due(inside + " has too many fields", fieldsBesideConstants(inside) > MOST_FIELDS ? 1 : 0, 0);
         }
+        checks.due("the class has too many fields", fieldsBesideConstants(face) > MOST_FIELDS ? 1 : 0, 0);
+        checks.due("there are too many classes", face.getDeclaredClasses().length >= MOST_CLASSES ? 1 : 0, 0);
         checks.end();
+    }
+
+    private static int fieldsBesideConstants(Class<?> owner) {
+        int fields = 0;
+        for (Field f : owner.getDeclaredFields()) {
+            if (!Modifier.isStatic(f.getModifiers())) fields++;
+        }
+        return fields;
     }
 
     private static String signature(Method m) {

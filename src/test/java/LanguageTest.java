@@ -1,0 +1,63 @@
+import java.nio.charset.StandardCharsets;
+import java.nio.file.Files;
+import java.nio.file.Path;
+import java.util.regex.Matcher;
+import java.util.regex.Pattern;
+
+/** What of LANGUAGE.md can be seen from the letters of the program; it is run from the project's folder. */
+public final class LanguageTest {
+    private static final String SOURCE = "src/main/java/AskedTheOtherWayAbout.java";
+    private static final String[] FORBIDDEN = {
+        "\\b(throw|throws|try|catch|finally|synchronized|assert|volatile|native|record|enum|interface)\\b",
+        "\\b(protected|package|float|double|Object|equals|hashCode|toString|System\\.(?!arraycopy))\\b",
+        "->", "::", "@", "\\bstatic\\s*\\{", "\\bwhile\\s*\\(\\s*true", "\"\\s*\\+|\\+\\s*\"",
+        "\\bimport\\s+(?!java\\.util\\.Arrays;)", "\\bArrays\\.(?!fill\\b|copyOf\\b|copyOfRange\\b)",
+        "\\bMath\\.(?!abs\\b|min\\b|max\\b)", "\\bInteger\\.(?!bitCount\\b)", "\\bLong\\b", "Exact\\b",
+    };
+    private static final Pattern HEAD = Pattern.compile("^( +)(?:public |private |static |final )*[\\w\\[\\]]+ (\\w+)"
+            + "\\(([^)]*)\\) \\{$", Pattern.MULTILINE);
+    private static final int MOST_PARAMETERS = 7;
+    private static final int MOST_LINES = 60;
+
+    public static void main(String[] args) throws Exception {
+        Checks checks = new Checks();
+        String source = Files.readString(Path.of(SOURCE), StandardCharsets.ISO_8859_1);
+        checks.due("signs above 127", source.chars().filter(c -> c > 127).count(), 0);
+        String code = bare(source);
+        for (String forbidden : FORBIDDEN) {
+            Matcher found = Pattern.compile(forbidden).matcher(code);
+            checks.due("rule broken: " + forbidden, found.find() ? found.group() : "", "");
+        }
+        methods(checks, code);
+        // all that an object needs is made with it: a call makes nothing
+        checks.due("'new' outside of fields", matches(code, "(?m)^(?! +(private )?final ).*\\bnew\\b"), 0);
+        checks.end();
+    }
+
+    /** The source without comments, and with empty texts. */
+    private static String bare(String source) {
+        return source.replaceAll("(?s)/\\*.*?\\*/", "").replaceAll("//[^\n]*", "")
+                .replaceAll("\"(?:[^\"\\\\\n]|\\\\.)*\"", "\"\"");
+    }
+
+    private static void methods(Checks checks, String code) {
+        Matcher head = HEAD.matcher(code);
+        int found = 0;
+        while (head.find()) {
+            found++;
+            int end = code.indexOf("\n" + head.group(1) + "}\n", head.end());
+            long lines = code.substring(head.start(), end).lines().count();
+            checks.due(head.group(2) + " is too long", lines > MOST_LINES ? lines : 0, 0);
+            int parameters = head.group(3).isEmpty() ? 0 : head.group(3).split(",").length;
+            checks.due(head.group(2) + " takes too many", parameters > MOST_PARAMETERS ? parameters : 0, 0);
+        }
+        checks.due("the methods are seen", found > 100 ? 1 : 0, 1);
+    }
+
+    private static int matches(String code, String pattern) {
+        Matcher matcher = Pattern.compile(pattern).matcher(code);
+        int found = 0;
+        while (matcher.find()) found++;
+        return found;
+    }
+}
