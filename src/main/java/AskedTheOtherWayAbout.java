@@ -827,14 +827,13 @@ public final class AskedTheOtherWayAbout {
      */
     private static final class Orders {
         private final int[] shares = new int[MOST_QUESTIONS];
-        /** By how much the QUESTIONS of a set change at least, the others of the set in hand being ahead of them. */
+        /** By how much the QUESTIONS of a set change at least, the others of the set in hand ahead of them; none: 0. */
         private final int[] leastOfRest = new int[1 << MOST_QUESTIONS];
 
         int leansOfBest(Town town, int set) {
             for (int q = 0; q < town.questionCount; q++) {
                 shares[q] = town.shareOf(q, ALL_GROUPS);
             }
-            leastOfRest[0] = 0;
             for (int rest = 1; rest <= set; rest++) {
                 if ((rest & ~set) == 0) leastOfRest[rest] = leastOf(town, set, rest);
             }

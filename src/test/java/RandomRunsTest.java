@@ -11,11 +11,12 @@ public final class RandomRunsTest {
         "never", "late", "fits", "halves", "twin", "nearest", "move", "judge", "round", "change", "doors", "seed",
         "act", "trace", "image", "restore", "status",
     };
+    private static final String OF_A_ROUND = "sin";
     /** What each argument is drawn from, a letter each; see drawn(). */
     private static final String[] ARGUMENTS = {
         "shn", "sil", "ssiii", "si", "sq", "s", "sk", "kt", "cvttt", "gw", "qw", "bp",
         "qqn", "s", "", "qgc", "tb", "qtb", "", "oi", "", "qq", "qm", "t", "qd",
-        "", "qt", "mm", "q", "q", "", "qm", "si", "sii", "gvc", "d", "l",
+        "", "qt", "mm", "q", "q", "", "qm", "si", OF_A_ROUND, "gvc", "d", "l",
         "qbl", "i", "", "", "w",
     };
     private static final int TOWN = 13;
@@ -25,6 +26,8 @@ public final class RandomRunsTest {
     private final Model model = new Model();
     private final AskedTheOtherWayAbout x = new AskedTheOtherWayAbout();
     private final List<String> calls = new ArrayList<>();
+    private int latestShelf;
+    private int latestLength;
 
     private RandomRunsTest(long seed) {
         random = new Random(seed);
@@ -59,6 +62,10 @@ public final class RandomRunsTest {
     }
 
     private long[] drawnAll(String from, boolean wild) {
+        if (from.equals(OF_A_ROUND) && random.nextInt(3) > 0) {
+            int told = random.nextInt(3) > 0 ? latestLength : random.nextInt(latestLength + 1);
+            return new long[] {latestShelf, told, random.nextInt(told + 2) - 1};
+        }
         long[] arguments = new long[from.length()];
         for (int i = 0; i < arguments.length; i++) {
             arguments[i] = drawn(from.charAt(i));
@@ -144,9 +151,12 @@ public final class RandomRunsTest {
     /** Puts a ROW into SHELVES 0 to 3, so that most calls to come find it. */
     private boolean writeRow(int[] elements) {
         int s = random.nextInt(4);
+        latestShelf = s;
+        latestLength = elements.length;
         if (!isSame(0, new long[] {s, random.nextInt(4), elements.length})) return false;
         for (int i = 0; i < elements.length; i++) {
-            if (!isSame(1, new long[] {s, i, elements[i]})) return false;
+            long upper = (long) random.nextInt(3) << 32;
+            if (!isSame(1, new long[] {s, i, upper + elements[i]})) return false;
         }
         for (int other = 0; other < 4; other++) {
             long sort = x.holds(s) - 100;

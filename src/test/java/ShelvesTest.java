@@ -214,8 +214,17 @@ public final class ShelvesTest {
         due("8: says(2, 6)", y.says(2, 6), -3);
         due("8: says(0, 1)", y.says(0, 1), -2);
         CHECKS.due("8: refusals", Checks.refusals(y), "3 2 1 0 0 0 0");
+        y.show(0, 4);
+        due("8: BOXED of a 2", y.says(0, 4), 80);
         due("8: LED of a 9", y.question(3, 9), 7);
         y.show(0, 7);
         due("8: glad ten tenths at most", y.says(0, 3), 100);
+        AskedTheOtherWayAbout z = new AskedTheOtherWayAbout();
+        for (int kind = 0; kind < 7; kind++) {
+            z.question(kind, 0);
+            z.show(0, kind);
+            int[] whole = {0, 50, 100, 50, 100, 100, 50};
+            due("8: a KIND of a 0, " + kind, z.says(0, kind), whole[kind]);
+        }
     }
 }

@@ -18,6 +18,8 @@ public final class TellingTest {
         promise22Blame();
         promise23Nothing();
         promise24Enough();
+        promise24And26Slow();
+        promise18To29Full();
         promise25Cost();
         promise26Fine();
         promise27Never();
@@ -45,9 +47,13 @@ public final class TellingTest {
         }
         due("17: yes(0, 0, 999)", x.yes(0, 0, 999), 999);
         due("17: FORBID is cut by itself", x.yes(5, 2, 7), 1);
+        x.group(1, 1, 7, 0, 0);
+        x.group(1, 1, 8, 0, 0);
+        due("17: ten tenths", x.yes(3, 3, 999), 999);
+        due("17: ten tenths at most", x.yes(3, 4, 999), 999);
         due("17: EMPTY is cut twice", x.yes(6, 0, 7), 2);
         due("17: yes(7, 0, -1)", x.yes(7, 0, -1), -1);
-        due("17: yes(0, 3, 0)", x.yes(0, 3, 0), -1);
+        due("17: yes(0, 5, 0)", x.yes(0, 5, 0), -1);
         due("17: yes(-1, 0, 0)", x.yes(-1, 0, 0), -1);
         due("17: yes(0, -1, 0)", x.yes(0, -1, 0), -1);
         due("17: yes(0, 0, 1000)", x.yes(0, 0, 1000), -6);
@@ -167,6 +173,8 @@ public final class TellingTest {
         due("22: whatever the sign", y.blame(), 302);
         y.bears(5, 0, 9);
         due("22: the most", y.blame(), 500);
+        y.question(0, 0);
+        due("22: of eight QUESTIONS", y.blame(), 500);
         CHECKS.due("22: refusals", Checks.refusals(y), "0 0 0 0 0 0 0");
     }
 
@@ -203,6 +211,51 @@ public final class TellingTest {
         AskedTheOtherWayAbout y = new AskedTheOtherWayAbout();
         y.question(0, 0);
         due("24: of nobody", y.enough(0, 0), 0);
+    }
+
+    /** One GROUP is in at once, of the other one ever fewer are: 999 and 567 ANSWER BY 8 TRIES, 43 more BY 9. */
+    private static AskedTheOtherWayAbout slow() {
+        AskedTheOtherWayAbout x = new AskedTheOtherWayAbout();
+        x.question(0, 0);
+        x.group(999, 0, 0, 10, 10);
+        x.group(999, 1, 0, 1, 10);
+        return x;
+    }
+
+    private static void promise24And26Slow() {
+        AskedTheOtherWayAbout x = slow();
+        due("24: ANSWERS BY 8", x.answers(8, 0), 999 + 567);
+        due("24: ANSWERS BY 9", x.answers(9, 0), 999 + 610);
+        due("24: enough(0, 137)", x.enough(0, 137), 8);
+        due("24: enough(0, 136)", x.enough(0, 136), 9);
+        due("24: enough(0, 120)", x.enough(0, 120), 9);
+        due("24: enough(0, 119)", x.enough(0, 119), -1);
+        due("26: the last TRY", x.fine(0, MAX), 9);
+        AskedTheOtherWayAbout y = new AskedTheOtherWayAbout();
+        y.question(0, 0);
+        y.group(9, 1, 0, 5, 5);
+        due("26: none is as good as any", y.fine(0, MAX), 0);
+    }
+
+    private static void promise18To29Full() {
+        AskedTheOtherWayAbout x = new AskedTheOtherWayAbout();
+        for (int i = 0; i < 8; i++) {
+            x.question(0, 0);
+        }
+        for (int g = 0; g < 10; g++) {
+            x.group(10, g % 3, 0, 5, g == 0 || g == 9 ? 0 : 10);
+        }
+        due("18: of ten GROUPS", x.answers(1, 0), 40);
+        due("18: LEFT of ten GROUPS", x.answers(1, 1), 50);
+        due("19: of ten GROUPS", x.by(7, 1, 0), 1000 * (2 * 5 + 3 * 2) / 40);
+        due("20: of ten GROUPS", x.hold(), 400);
+        due("21: of eight QUESTIONS", x.order(0xFC, -1), 0);
+        due("21: the last of them", x.order(0xFC, 5), 7);
+        due("25: of ten GROUPS", x.cost(2), 5 * 150);
+        due("27: the first and the last GROUP", x.never(), 0x201);
+        due("28: of ten GROUPS", x.late(-1, 2), 16);
+        due("29: of eight QUESTIONS", x.fits(550, 0), 255);
+        due("31: of eight QUESTIONS", x.twin(7), 0);
     }
 
     private static void promise25Cost() {
@@ -311,6 +364,8 @@ public final class TellingTest {
         due("31: twin(0)", x.twin(0), 6);
         due("31: twin(2)", x.twin(2), 0);
         due("31: twin(3)", x.twin(3), 5);
+        due("31: twin(1)", x.twin(1), 5);
+        due("31: twin(6)", x.twin(6), 0);
         due("31: twin(7)", x.twin(7), -11);
         due("31: twin(-1)", x.twin(-1), -11);
         CHECKS.due("31: refusals", Checks.refusals(x), "2 0 0 0 0 0 0");

@@ -141,7 +141,8 @@ public final class TownTest {
         due("14: ask(0, 100)", x.ask(0, 100), -6);
         due("14: ask(0, -1)", x.ask(0, -1), -6);
         due("14: ask(1, 7)", x.ask(1, 7), 0);
-        due("14: ask(1, 3)", x.ask(1, 3), 7);
+        due("14: ask(1, 0)", x.ask(1, 0), 7);
+        due("14: ask(1, 3)", x.ask(1, 3), 0);
         due("14: ask(1, 8)", x.ask(1, 8), -6);
         due("14: ask(1, -1)", x.ask(1, -1), -6);
         due("14: ask(2, 0)", x.ask(2, 0), -6);

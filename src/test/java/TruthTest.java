@@ -88,6 +88,9 @@ public final class TruthTest {
         Checks.line(x, 2, 3, 0);
         due("35: the other way about", x.round(2, 2, 1), 480);
         due("35: LEANS whatever the sign", x.round(2, 2, -1), 90);
+        Checks.line(x, 3, 1, 5, 0);
+        due("35: not by one behind it", x.round(3, 3, 1), 160);
+        due("35: nor LEANS", x.round(3, 3, -1), 90);
         AskedTheOtherWayAbout y = new AskedTheOtherWayAbout();
         y.question(0, 0);
         y.question(0, 0);
@@ -259,6 +262,7 @@ public final class TruthTest {
         due("40: trace(10)", x.trace(10), -1);
         due("40: trace(MIN)", x.trace(MIN), -1);
         due("40: trace(MAX)", x.trace(MAX), -1);
+        due("39: FORBID turns bits about", x.act(5, 2, 4), 54 ^ 5 ^ 5);
         due("39: wraps", x.act(3, 0, MAX), MIN + 11);
         due("39: wraps", x.act(2, 1, MAX), 6);
         due("39: wraps", x.act(5, 1, MIN), 30);
