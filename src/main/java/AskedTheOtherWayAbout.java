@@ -1,5 +1,3 @@
-import java.util.Arrays;
-
 /** Groups of people, the questions that they are asked, and what comes of it; DOC.md says what each call does. */
 public final class AskedTheOtherWayAbout {
     public static final int NONE = -1;
@@ -877,7 +875,9 @@ public final class AskedTheOtherWayAbout {
         private final long[] elements = new long[SHELF_COUNT * MOST_ELEMENTS];
 
         Shelves() {
-            Arrays.fill(held, NONE);
+            for (int s = 0; s < SHELF_COUNT; s++) {
+                held[s] = NONE;
+            }
         }
 
         int heldBy(int s) {
@@ -915,7 +915,9 @@ public final class AskedTheOtherWayAbout {
         void putRow(int s, int sort, int n) {
             held[s] = ROW_MARK + sort;
             sizes[s] = n;
-            Arrays.fill(elements, s * MOST_ELEMENTS, s * MOST_ELEMENTS + n, 0L);
+            for (int i = 0; i < n; i++) {
+                elements[s * MOST_ELEMENTS + i] = 0;
+            }
         }
 
         void putQuestion(int s, int question) {

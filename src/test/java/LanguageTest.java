@@ -11,7 +11,7 @@ public final class LanguageTest {
         "\\b(throw|throws|try|catch|finally|synchronized|assert|volatile|native|record|enum|interface)\\b",
         "\\b(protected|package|float|double|Object|equals|hashCode|toString|System\\.(?!arraycopy))\\b",
         "->", "::", "@", "\\bstatic\\s*\\{", "\\bwhile\\s*\\(\\s*true", "\"\\s*\\+|\\+\\s*\"",
-        "\\bimport\\s+(?!java\\.util\\.Arrays;)", "\\bArrays\\.(?!fill\\b|copyOf\\b|copyOfRange\\b)",
+        "\\bimport\\b", "\\bArrays\\b",
         "\\bMath\\.(?!abs\\b|min\\b|max\\b)", "\\bInteger\\.(?!bitCount\\b)", "\\bLong\\b", "Exact\\b",
     };
     private static final Pattern HEAD = Pattern.compile("^( +)(?:public |private |static |final )*[\\w\\[\\]]+ (\\w+)"
