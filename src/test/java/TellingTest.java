@@ -377,6 +377,20 @@ public final class TellingTest {
         due("31: the first", y.twin(0), 1);
         due("31: the first of several", y.twin(2), 0);
         CHECKS.due("31: refusals", Checks.refusals(y), "0 0 0 0 0 0 0");
+        AskedTheOtherWayAbout z = new AskedTheOtherWayAbout();
+        int[] kinds = {0, 2, 1, 2};
+        for (int kind : kinds) {
+            z.question(kind, 0);
+        }
+        z.group(500, 0, 0, 0, 0);
+        z.group(499, 1, 0, 0, 0);
+        z.group(1, 2, 10, 0, 0);
+        due("31: SHARE of 500", z.questionOf(0, 3), 500);
+        due("31: SHARE of 499", z.questionOf(1, 3), 499);
+        due("31: SHARE of 501", z.questionOf(2, 3), 501);
+        due("31: one too few or too many", z.twin(0), 1);
+        due("31: just 1000", z.twin(2), 1);
+        due("31: just 1000 the other way about", z.twin(3), 2);
     }
 
     private static void promise32Nearest() {
