@@ -28,7 +28,7 @@ final class Sentence {
             Step step = steps.get(i);
             long got = step.makeOn(x);
             if (step.isDue && got != step.due) {
-                broken.add("line " + step.line + ": " + step.call + " answered " + got + ", due is " + step.due);
+                broken.add(step.place + ": " + step.call + " answered " + got + ", due is " + step.due);
             }
             if (step.isRefused) {
                 refusals[step.refusalCounted()]++;
@@ -56,7 +56,7 @@ final class Sentence {
             String before = i < without.size() ? without.get(i) : "nothing";
             String after = i < with.size() ? with.get(i) : "nothing";
             if (!before.equals(after)) {
-                changed.add("line " + step.line + ": refused " + step.call + " changed " + before + " to " + after);
+                changed.add(step.place + ": refused " + step.call + " changed " + before + " to " + after);
             }
         }
         return changed;

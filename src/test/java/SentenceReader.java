@@ -29,12 +29,15 @@ final class SentenceReader {
 
     private final List<Sentence> sentences = new ArrayList<>();
     private Sentence sentence;
-    private int line;
+    /** The file and its line. */
+    private String place;
 
     static List<Sentence> read(Path file) throws IOException {
         SentenceReader reader = new SentenceReader();
+        int line = 0;
         for (String text : Files.readAllLines(file)) {
-            reader.line++;
+            line++;
+            reader.place = file.getFileName() + ":" + line;
             if (!text.isBlank() && !text.startsWith("#")) reader.readLine(text.strip());
         }
         return reader.sentences;
@@ -46,7 +49,7 @@ final class SentenceReader {
             sentence = new Sentence(Integer.parseInt(head.group(1)), head.group(2));
             sentences.add(sentence);
         } else if (sentence == null || !readStep(text)) {
-            throw new IllegalArgumentException("line " + line + " can't be read: " + text);
+            throw new IllegalArgumentException(place + " can't be read: " + text);
         }
     }
 
@@ -68,7 +71,7 @@ final class SentenceReader {
     private boolean readTown(String text) {
         if (!text.equals("hundred") && !text.equals("twenty")) return false;
         for (String call : text.equals("hundred") ? HUNDRED : TWENTY) {
-            sentence.steps.add(Step.made(call, line));
+            sentence.steps.add(Step.made(call, place));
         }
         return true;
     }
@@ -77,11 +80,11 @@ final class SentenceReader {
         Matcher call = CALL.matcher(text);
         if (!call.matches()) return false;
         if (call.group(2) == null) {
-            sentence.steps.add(Step.made(call.group(1), line));
+            sentence.steps.add(Step.made(call.group(1), place));
         } else if (call.group(2).equals("=")) {
-            sentence.steps.add(Step.answered(call.group(1), line, Step.number(call.group(3))));
+            sentence.steps.add(Step.answered(call.group(1), place, Step.number(call.group(3))));
         } else {
-            sentence.steps.add(Step.refused(call.group(1), line, Step.number(call.group(3))));
+            sentence.steps.add(Step.refused(call.group(1), place, Step.number(call.group(3))));
         }
         return true;
     }
@@ -92,8 +95,8 @@ final class SentenceReader {
         int number = Integer.parseInt(tell.group(3));
         if (tell.group(2).equals("=")) {
             writeLetters(7, 0, tell.group(1));
-            sentence.steps.add(Step.answered("town(7)", line, number));
-            sentence.steps.add(Step.answered("fault()", line, -1));
+            sentence.steps.add(Step.answered("town(7)", place, number));
+            sentence.steps.add(Step.answered("fault()", place, -1));
         } else {
             tellWithFault(tell.group(1), number);
         }
@@ -112,8 +115,8 @@ final class SentenceReader {
 
     private void tellWithFault(String text, int fault) {
         writeLetters(7, 0, text);
-        sentence.steps.add(Step.refused("town(7)", line, -6));
-        sentence.steps.add(Step.answered("fault()", line, fault));
+        sentence.steps.add(Step.refused("town(7)", place, -6));
+        sentence.steps.add(Step.answered("fault()", place, fault));
     }
 
     private boolean readRow(String text) {
@@ -134,13 +137,13 @@ final class SentenceReader {
         Matcher trace = TRACE.matcher(text);
         if (!trace.matches()) return false;
         String bodies = trace.group(1).strip();
-        int place = 0;
+        int ran = 0;
         for (String body : bodies.isEmpty() ? new String[0] : bodies.split("\\s+")) {
-            sentence.steps.add(Step.answered("trace(" + place + ")", line, Long.parseLong(body)));
-            place++;
+            sentence.steps.add(Step.answered("trace(" + ran + ")", place, Long.parseLong(body)));
+            ran++;
         }
-        sentence.steps.add(Step.answered("trace(" + place + ")", line, -1));
-        sentence.steps.add(Step.answered("status(8)", line, place));
+        sentence.steps.add(Step.answered("trace(" + ran + ")", place, -1));
+        sentence.steps.add(Step.answered("status(8)", place, ran));
         return true;
     }
 
@@ -153,9 +156,9 @@ final class SentenceReader {
     }
 
     private void write(int shelf, int sort, String[] elements) {
-        sentence.steps.add(Step.answered("row(" + shelf + ", " + sort + ", " + elements.length + ")", line, 1));
+        sentence.steps.add(Step.answered("row(" + shelf + ", " + sort + ", " + elements.length + ")", place, 1));
         for (int i = 0; i < elements.length; i++) {
-            sentence.steps.add(Step.answered("set(" + shelf + ", " + i + ", " + elements[i] + ")", line, 1));
+            sentence.steps.add(Step.answered("set(" + shelf + ", " + i + ", " + elements[i] + ")", place, 1));
         }
     }
 }

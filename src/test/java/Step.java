@@ -4,41 +4,43 @@ import java.lang.reflect.Method;
 /** One call of a sentence's test, and what is due: an answer, a refusal, or whatever it answers without a refusal. */
 final class Step {
     final String call;
-    final int line;
+    /** The file and its line. */
+    final String place;
     final boolean isDue;
     final boolean isRefused;
     final long due;
     private final Method method;
     private final Object[] arguments;
 
-    private Step(String call, int line, char sign, long due) {
+    private Step(String call, String place, char sign, long due) {
         this.call = call;
-        this.line = line;
+        this.place = place;
         this.isDue = sign != ' ';
         this.isRefused = sign == '!';
         this.due = due;
-        method = methodNamed(call.substring(0, call.indexOf('(')));
+        method = methodNamed(call.substring(0, call.indexOf('(')), place);
         String inside = call.substring(call.indexOf('(') + 1, call.length() - 1).trim();
         arguments = arguments(inside.isEmpty() ? new String[0] : inside.split("\\s*,\\s*"));
     }
 
-    static Step made(String call, int line) {
-        return new Step(call, line, ' ', 0);
+    static Step made(String call, String place) {
+        return new Step(call, place, ' ', 0);
     }
 
-    static Step answered(String call, int line, long due) {
-        return new Step(call, line, '=', due);
+    static Step answered(String call, String place, long due) {
+        return new Step(call, place, '=', due);
     }
 
-    static Step refused(String call, int line, long due) {
-        return new Step(call, line, '!', due);
+    static Step refused(String call, String place, long due) {
+        if (due > -1 || -due % 10 < 1 || -due % 10 > 7) throw new IllegalArgumentException(place + ": no such refusal");
+        return new Step(call, place, '!', due);
     }
 
     long makeOn(AskedTheOtherWayAbout x) {
         try {
             return ((Number) method.invoke(x, arguments)).longValue();
         } catch (IllegalAccessException | InvocationTargetException e) {
-            throw new IllegalStateException("line " + line + ": " + call + " threw", e);
+            throw new IllegalStateException(place + ": " + call + " threw", e);
         }
     }
 
@@ -69,16 +71,16 @@ final class Step {
         }
     }
 
-    private static Method methodNamed(String name) {
+    private static Method methodNamed(String name, String place) {
         for (Method method : AskedTheOtherWayAbout.class.getMethods()) {
             if (method.getName().equals(name)) return method;
         }
-        throw new IllegalArgumentException("no such call: " + name);
+        throw new IllegalArgumentException(place + ": no such call: " + name);
     }
 
     private Object[] arguments(String[] texts) {
         Class<?>[] types = method.getParameterTypes();
-        if (types.length != texts.length) throw new IllegalArgumentException("line " + line + ": arguments of " + call);
+        if (types.length != texts.length) throw new IllegalArgumentException(place + ": arguments of " + call);
         Object[] numbers = new Object[texts.length];
         for (int i = 0; i < texts.length; i++) {
             long number = number(texts[i]);
