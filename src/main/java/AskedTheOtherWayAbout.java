@@ -832,7 +832,7 @@ public final class AskedTheOtherWayAbout {
             for (int q = 0; q < town.questionCount; q++) {
                 shares[q] = town.shareOf(q, ALL_GROUPS);
             }
-            for (int rest = 1; rest <= set; rest++) {
+            for (int rest = 1; rest < leastOfRest.length; rest++) {
                 if ((rest & ~set) == 0) leastOfRest[rest] = leastOf(town, set, rest);
             }
             return leastOfRest[set];
